@@ -4,6 +4,7 @@ public final class PromiseTests {
     private static final int FULL = -1000002;
     private static final int KIND = -1000003;
     private static final int NONE = -1000004;
+    private static final int STATE = -1000005;
     private static final int MISSING = -1000006;
     private static final int SIZE = -1000007;
 
@@ -76,9 +77,11 @@ public final class PromiseTests {
         choosing();
         secondAndRegret();
         tuesdays();
+        theLastTuesday();
         nowTells();
         whatWillBe();
         restsRoundMeet();
+        edgesOfAHundred();
         crowds();
         bestFor();
         prizeForAndTell();
@@ -297,7 +300,15 @@ public final class PromiseTests {
         due("P5 one more would share 42", y.of(0, 7), 1);
         due("P5 the other place's own", y.of(2, 7), 0);
         due("P5 alone it gets all", y.of(2, 6), 42);
+        due("P5 regret for place 7", regretOf(0, 7), 1);
+        due("P5 regret for place 0", regretOf(7, 0), 1);
         due("P5 what it has of itself is no other place", townOf(CAT, 0).of(0, 7), 0);
+    }
+
+    private static int regretOf(int plan, int dear) {
+        TwoTuesdays x = townOf(CAT, plan);
+        x.prize(dear, 11);
+        return x.of(0, 7);
     }
 
     private static void tuesdays() {
@@ -330,6 +341,28 @@ public final class PromiseTests {
         due("P9 the thief comes to its love", y.of(1, 1), 0);
         due("P9 the second gambler goes where nobody was", y.of(2, 1), 2);
         due("P9 a town of nobody", new TwoTuesdays().go(60), 0);
+    }
+
+    /** No run of 512 calls gets so far; what stands behind that is free, but the class keeps to it. */
+    private static void theLastTuesday() {
+        TwoTuesdays x = townOf(PERSON, 3);
+        for (int i = 0; i < 1666; i++) {
+            x.go(60);
+        }
+        due("P9 Tuesday", x.now(0), 99960);
+        due("P9 one too many", x.go(40), STATE);
+        due("P9 beyond comes ahead of state", x.go(61), BEYOND);
+        x.go(20);
+        due("P27 one too many", x.weather(20), STATE);
+        due("P27 no draw", x.count(6), 1);
+        due("P27 nothing changed", x.now(0), 99980);
+        x.weather(18);
+        due("P9 the last", x.go(1), x.now(1));
+        due("P9 it is the last", x.now(0), 99999);
+        due("P9 no more", x.go(1), STATE);
+        due("P27 no more", x.weather(1), STATE);
+        due("P44 STATE", x.status(4), 4);
+        due("P11 what would be is no state", x.ahead(0, 5), 99999);
     }
 
     private static void nowTells() {
@@ -408,6 +441,76 @@ public final class PromiseTests {
         due("P13 nothing changed", y.now(0) + y.of(0, 1), 0);
     }
 
+    /** Prizes, then of each one kind, plan, looks, love. */
+    private static TwoTuesdays townOf(int[] prizes, int[]... people) {
+        TwoTuesdays x = new TwoTuesdays();
+        prizes(x, prizes);
+        for (int[] one : people) {
+            x.person(one[0], one[1]);
+        }
+        for (int i = 0; i < people.length; i++) {
+            x.change(i, 2, people[i][2]);
+            x.change(i, 3, people[i][3]);
+        }
+        return x;
+    }
+
+    /** Towns found by search, that rest, come round or meet late; walking there shows that they do. */
+    private static void edgesOfAHundred() {
+        TwoTuesdays x = townOf(new int[] {49, 41, 8, 34, 44, 74, 58, 12}, new int[] {3, 7, 2, 6},
+            new int[] {2, 5, 7, 0}, new int[] {2, 0, 5, -1}, new int[] {3, 5, 6, 5}, new int[] {2, 4, 1, 1},
+            new int[] {0, 2, 2, 3}, new int[] {3, 4, 3, -1});
+        x.go(39);
+        due("P13 behind 101", x.rests(), NONE);
+        x.go(1);
+        due("P13 behind 100", x.rests(), 100);
+        for (int n = 0; n < 100; n++) {
+            due("P13 not yet, " + n, x.now(4) != 0 ? 1 : 0, 1);
+            x.go(1);
+        }
+        due("P13 at rest", x.now(4), 0);
+
+        TwoTuesdays y = townOf(new int[] {58, 25, 17, 53, 15, 45, 31, 30}, new int[] {1, 3, 3, 1},
+            new int[] {2, 4, 3, 2}, new int[] {3, 3, 3, 0}, new int[] {3, 2, 4, 6}, new int[] {3, 4, 3, 3},
+            new int[] {4, 7, 3, 1}, new int[] {0, 5, 7, 1});
+        y.go(60);
+        due("P14 behind 100", y.round(), 100);
+        y.image();
+        y.go(1);
+        y.go(49);
+        due("P14 not behind 50", samePlans(y), 0);
+        y.go(50);
+        due("P14 round", samePlans(y), 1);
+
+        TwoTuesdays z = townOf(new int[] {4, 67, 33, 73, 48, 41, 25, 67}, new int[] {2, 5, 3, 6},
+            new int[] {3, 0, 2, 4}, new int[] {4, 5, 6, 5}, new int[] {4, 4, 7, 6}, new int[] {3, 6, 7, 7},
+            new int[] {3, 6, 5, 3}, new int[] {1, 7, 2, 0}, new int[] {0, 0, 3, 1});
+        due("P15 behind 101", z.meet(7, 5), NONE);
+        z.go(1);
+        due("P15 behind 100", z.meet(7, 5), 100);
+        z.go(50);
+        z.go(50);
+        due("P15 they meet", z.of(7, 5), z.of(5, 5));
+    }
+
+    /** 1 if all plans are now as the image keeps them; the image comes back by that. */
+    private static int samePlans(TwoTuesdays x) {
+        int[] now = new int[x.count(1)];
+        for (int i = 0; i < now.length; i++) {
+            now[i] = x.of(i, 1);
+        }
+        int walked = x.count(0);
+        int is = 1;
+        int back = walked - x.undo();
+        for (int i = 0; i < now.length; i++) {
+            is = x.of(i, 1) == now[i] ? is : 0;
+        }
+        for (int i = 0; i < back; i++) {
+            x.go(1);
+        }
+        return is;
+    }
+
     private static void crowds() {
         TwoTuesdays x = townOf(PERSON, 0, 1, 7);
         prizes(x, 0, 10, 20, 30, 40, 50, 60, 700);
@@ -453,6 +556,15 @@ public final class PromiseTests {
         due("P17 nothing changed", x.now(0) + x.now(1) + x.of(0, 0) + x.of(0, 1), 0);
         due("P19 nothing changed", x.of(0, 2), 1);
         due("P20 nothing changed", x.of(0, 3), -1);
+        TwoTuesdays last = townOf(LOVER, 0, 0, 0, 0, 0, 0, 0, 6);
+        prizes(last, 0, 0, 0, 0, 0, 0, 0, 900);
+        last.change(7, 0, CAT);
+        due("P17 the last plan", last.planFor(0, 1), 6);
+        last.change(0, 2, 0);
+        due("P17 the last plan alone", last.planFor(0, 1), 7);
+        due("P19 as far as can be", last.looksFor(0, 1), 7);
+        last.change(0, 2, 6);
+        due("P20 the last one leads on", last.loveFor(0, 2), 7);
         kindThatPays();
         loveThatPays();
     }
@@ -552,6 +664,14 @@ public final class PromiseTests {
         due("P22 the one who is loved", z.tell(5, 3), 8);
         due("P22 one is fewer than two, though more as a number", z.tell(5, 4), 8);
         due("P22 one there", z.tell(5, 1), 1);
+        TwoTuesdays few = townOf(CAT, 0, 0, 0, 4, 6);
+        few.change(3, 0, LOVER);
+        few.change(4, 0, LOVER);
+        few.change(3, 3, 2);
+        few.change(4, 3, 2);
+        due("P22 the one who is loved, not the two cats ahead of it", few.tell(5, 2), 4);
+        due("P22 three by one", few.tell(5, 3), 4);
+        due("P22 four by two", few.tell(5, 4), 5);
     }
 
     private static void awayAndSwap() {
@@ -585,6 +705,7 @@ public final class PromiseTests {
 
         due("P24 nobody", new TwoTuesdays().swapFor(0), NONE);
         due("P24 one", townOf(CAT, 3).swapFor(40), NONE);
+        due("P24 two", townOf(CAT, 3, 4).swapFor(40), 1);
         due("P24 n 41", x.swapFor(41), BEYOND);
         due("P24 n -1", x.swapFor(-1), BEYOND);
         due("P24 beyond comes ahead of none", new TwoTuesdays().swapFor(41), BEYOND);
@@ -674,6 +795,17 @@ public final class PromiseTests {
         due("P29 that one too", x.status(-1), 2);
         x.go(1);
         due("P9 no draw", x.seed(0), 7);
+
+        // Both of these draws are of an int below 0.
+        TwoTuesdays w = townOf(CAT, 0, 1, 2, 3, 4, 5, 6, 7);
+        int below = 2;
+        while (drawnFrom(below) >= 0 || drawnFrom(drawnFrom(below)) >= 0) {
+            below++;
+        }
+        w.seed(below);
+        int wet = (drawnFrom(drawnFrom(below)) >>> 8) % 100;
+        due("P27 below 0", w.weather(1), 70 + wet);
+        due("P27 the prize drawn below 0", w.place((drawnFrom(below) >>> 8) % 8, 0), wet);
 
         long[] sevens = {1, 7, 49};
         TwoTuesdays y = new TwoTuesdays();
@@ -777,6 +909,9 @@ public final class PromiseTests {
         dueText("7", -1);
         dueText("at 1", -1);
         dueText("Cat", -1);
+        dueText("bat", -1);
+        dueText("drize 0 0", -1);
+        dueText("cat bt 1", -5);
         dueText("cAt", -1);
         dueText("caT", -1);
         dueText("catat 1", -1);
@@ -1041,6 +1176,10 @@ public final class PromiseTests {
             due("P43 count " + what, x.count(what), counts[what]);
         }
         due("P44 none yet", x.status(-1), 0);
+        x.prize(5, 9999);
+        due("P43 who regret at once", x.count(2), 3);
+        x.change(2, 1, 1);
+        due("P43 places at once", x.count(3), 1);
         due("P43 what -1", x.count(-1), BEYOND);
         due("P43 what 8", x.count(8), BEYOND);
         x.write(0, 0, 0);
