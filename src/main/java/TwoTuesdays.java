@@ -678,7 +678,7 @@ public final class TwoTuesdays {
     }
 
     private static boolean isPlace(int place) {
-        return isWithin(place, 0, PLACES - 1);
+        return place >= 0 && place < PLACES;
     }
 
     private static boolean isKind(int kind) {
@@ -867,56 +867,45 @@ public final class TwoTuesdays {
             return plannedAt[place] - (planOf[person] == place ? 1 : 0);
         }
 
+        /** It calls nothing, for it stands at the bottom of the dearest questions. */
         int wishAt(int person, int place) {
-            int others = seenBy(person, place);
+            boolean isPlan = planOf[person] == place;
+            int others = plannedAt[place] - (isPlan ? 1 : 0);
+            int share = others >= 0 ? prizeAt[place] / (others + 1) : 0;
+            int whole = others == 0 ? prizeAt[place] : 0;
+            int love = loveOf[person];
+            int forLove = love >= 0 && love < people && planOf[love] == place ? 100 : 0;
             switch (kindOf[person]) {
                 case GAMBLER:
-                    return wishForWhole(place, others);
+                    return whole;
                 case LOVER:
-                    return wishForShare(place, others) + wishForLove(person, place);
+                    return share + forLove;
                 case JEALOUS:
-                    return wishForShare(place, others) + wishForLove(person, place) - 5 * others;
+                    return share + forLove - 5 * others;
                 case THIEF:
-                    return wishForShare(place, others) + wishForLove(person, place) - 5 * others + 7 * others;
+                    return share + forLove - 5 * others + 7 * others;
                 case CAT:
-                    return planOf[person] == place ? 1 : 0;
+                    return isPlan ? 1 : 0;
                 case SLEEPER:
-                    return planOf[person] == place ? wishForWhole(place, others) : 0;
+                    return isPlan ? whole : 0;
                 default:
-                    return wishForShare(place, others);
+                    return share;
             }
-        }
-
-        private int wishForWhole(int place, int others) {
-            return others == 0 ? prizeAt[place] : 0;
-        }
-
-        private int wishForShare(int place, int others) {
-            return shareOf(prizeAt[place], others + 1);
-        }
-
-        private int wishForLove(int person, int place) {
-            int love = loveOf[person];
-            return isWithin(love, 0, people - 1) && planOf[love] == place ? 100 : 0;
         }
 
         void passTuesdays(int n) {
             for (int i = 0; i < n; i++) {
-                passTuesday();
-            }
-        }
-
-        private void passTuesday() {
-            settle();
-            for (int person = 0; person < people; person++) {
-                goodsOf[person] = Math.min(MAX_GOODS, goodsOf[person] + getsNow(person));
-            }
-            for (int person = 0; person < people; person++) {
-                if (kindOf[person] != CAT && kindOf[person] != SLEEPER) {
-                    planOf[person] = choiceOf[person];
+                settle();
+                for (int person = 0; person < people; person++) {
+                    goodsOf[person] = Math.min(MAX_GOODS, goodsOf[person] + getsNow(person));
                 }
+                for (int person = 0; person < people; person++) {
+                    if (kindOf[person] != CAT && kindOf[person] != SLEEPER) {
+                        planOf[person] = choiceOf[person];
+                    }
+                }
+                tuesday = Math.min(MAX_TUESDAY, tuesday + 1);
             }
-            tuesday = Math.min(MAX_TUESDAY, tuesday + 1);
         }
 
         int getsNow(int person) {
@@ -1053,6 +1042,7 @@ public final class TwoTuesdays {
         static final int NUMBER = 2;
         static final int SIGN = 3;
         static final int OTHER = 4;
+        static final int MAX_NUMBER = 9999;
 
         final int[] bytes = new int[MAX_BYTES];
         int length;
@@ -1082,29 +1072,34 @@ public final class TwoTuesdays {
             end = begin;
             if (begin >= length) {
                 token = END;
-            } else if (isLetter(bytes[begin])) {
+                return;
+            }
+            int first = bytes[begin];
+            if (first >= 'a' && first <= 'z') {
                 token = WORD;
                 skipWord();
-            } else if (isDigit(bytes[begin])) {
+            } else if (first >= '0' && first <= '9') {
                 token = NUMBER;
                 skipNumber();
             } else {
-                token = bytes[begin] == ';' ? SIGN : OTHER;
+                token = first == ';' ? SIGN : OTHER;
                 end = begin + 1;
             }
         }
 
         private void skipWord() {
-            while (end < length && isLetter(bytes[end])) {
+            while (end < length && bytes[end] >= 'a' && bytes[end] <= 'z') {
                 end++;
             }
         }
 
         private void skipNumber() {
             value = 0;
-            while (end < length && isDigit(bytes[end])) {
-                // One above the most is enough to tell a number as too great.
-                value = Math.min(MAX_PRIZE + 1, value * 10 + bytes[end] - '0');
+            while (end < length && bytes[end] >= '0' && bytes[end] <= '9') {
+                // A number that is too great already stays so, however many digits follow.
+                if (value <= MAX_NUMBER) {
+                    value = value * 10 + bytes[end] - '0';
+                }
                 end++;
             }
         }
@@ -1119,14 +1114,6 @@ public final class TwoTuesdays {
                 }
             }
             return true;
-        }
-
-        private static boolean isLetter(int b) {
-            return b >= 'a' && b <= 'z';
-        }
-
-        private static boolean isDigit(int b) {
-            return b >= '0' && b <= '9';
         }
     }
 

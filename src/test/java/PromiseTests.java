@@ -356,9 +356,12 @@ public final class PromiseTests {
         due("P27 one too many", x.weather(20), STATE);
         due("P27 no draw", x.count(6), 1);
         due("P27 nothing changed", x.now(0), 99980);
-        x.weather(18);
-        due("P9 the last", x.go(1), x.now(1));
+        x.image();
+        due("P9 up to the last", x.go(19) >= 0 ? 1 : 0, 1);
         due("P9 it is the last", x.now(0), 99999);
+        x.undo();
+        due("P27 up to the last", x.weather(19) >= 0 ? 1 : 0, 1);
+        due("P27 it is the last", x.now(0), 99999);
         due("P9 no more", x.go(1), STATE);
         due("P27 no more", x.weather(1), STATE);
         due("P44 STATE", x.status(4), 4);
@@ -898,6 +901,13 @@ public final class PromiseTests {
             long120.append('0');
         }
         dueText(long120.toString(), 1);
+        type(x, "cats 9999");
+        x.wipe();
+        due("P32 what was wiped is gone", read(x, "cat"), 1);
+        type(x, "prize 3 456");
+        x.wipe();
+        due("P32 what was wiped is gone, too", read(x, "prize 3 4"), 1);
+        due("P32 its prize", x.place(3, 0), 4);
         dueText("prize 7 0000000009999", 1);
         dueText("prize 0 0", 1);
         dueText("person loves0", -13);
