@@ -951,6 +951,8 @@ public final class PromiseTests {
         dueText("prize 8 1", -7);
         dueText("prize 7", -8);
         dueText("prize 7 10000", -9);
+        dueText("prize 7 99990", -9);
+        dueText("prize 7 99999000000000000000", -9);
         dueText("prize 7 1 1", -11);
         dueText("prize 7;1", -8);
         dueText("prize at", -7);
