@@ -24,11 +24,18 @@ public final class EdgeTests {
     private static final int SLEEPER = 6;
     private static final String[] NAMES = {"person", "gambler", "lover", "jealous", "thief", "cat", "sleeper"};
 
+    private static final int PROMISES = 44;
+    private static final int[] edgesOf = new int[1 + PROMISES];
+
     private static int edges = 0;
     private static int wrong = 0;
 
+    /** The sentence begins with P and the number of its promise, or with no number if it is of none. */
     private static void edge(String sentence, long due, LongSupplier answer) {
         edges++;
+        if (sentence.matches("P[0-9]+ .*")) {
+            edgesOf[Integer.parseInt(sentence.substring(1, sentence.indexOf(' ')))]++;
+        }
         long got = answer.getAsLong();
         if (got != due) {
             wrong++;
@@ -77,6 +84,8 @@ public final class EdgeTests {
         itemsOfTexts();
         numbersOfTexts();
         tokens();
+        otherWords();
+        tapesReadAgain();
         textsThatEndTooEarly();
         tokensThatCannotStand();
         lovesOfTexts();
@@ -90,6 +99,10 @@ public final class EdgeTests {
         images();
         counts();
         status();
+        for (int promise = 1; promise <= PROMISES; promise++) {
+            int there = edgesOf[promise];
+            edge("each promise has an edge, " + promise, 1, () -> Math.min(1, there));
+        }
         if (wrong != 0) {
             System.out.println(wrong + " of " + edges + " edges are not as due");
             System.exit(1);
@@ -462,7 +475,7 @@ public final class EdgeTests {
     }
 
     private static void choices() {
-        edge("P5 CHOICE: of equal ones the PLAN, the least of them or not", 4, () -> changed(town(PERSON, 4), 0, 2, 7).of(0, 5));
+        edge("P5 CHOICE: of equal ones the PLAN, not the least", 4, () -> changed(town(PERSON, 4), 0, 2, 7).of(0, 5));
         edge("P5 CHOICE: of two others the least", 3, () -> prized(town(PERSON, 4), 0, 0, 0, 7, 0, 7).of(0, 5));
         edge("P5 CHOICE: of seven others the least", 0,
             () -> prized(changed(town(PERSON, 7), 0, 2, 7), 9, 9, 9, 9, 9, 9, 9, 8).of(0, 5));
@@ -506,8 +519,10 @@ public final class EdgeTests {
         edge("P5 REGRETS: elsewhere by 1 more than are there", 1, () -> prized(town(CAT, 0, 1), 9, 20).of(0, 7));
         edge("P5 REGRETS: elsewhere by eight", 0, () -> prized(town(CAT, 0, 1, 1, 1, 1, 1, 1, 1), 9, 79).of(0, 7));
         edge("P5 REGRETS: elsewhere by eight, one more", 1, () -> prized(town(CAT, 0, 1, 1, 1, 1, 1, 1, 1), 9, 80).of(0, 7));
-        edge("P5 REGRETS: by those who are there on THE SECOND, not on THE FIRST", 0, () -> prized(town(new int[] {9, 17, 0},
-            new int[] {CAT, 0, 0, -1}, new int[] {PERSON, 2, 1, -1})).of(0, 7));
+        edge("P5 REGRETS: by those who are there on THE SECOND, not on THE FIRST", 0, () -> town(new int[] {9, 17},
+            new int[] {CAT, 0, 0, -1}, new int[] {PERSON, 2, 1, -1}).of(0, 7));
+        edge("P5 REGRETS: those who leave are not there on THE SECOND", 1, () -> town(new int[] {9, 10},
+            new int[] {CAT, 0, 0, -1}, new int[] {LOVER, 1, 1, 2}, new int[] {CAT, 2, 0, -1}).of(0, 7));
         for (int i = 0; i < 8; i++) {
             int plan = i;
             for (int k = 0; k < 8; k++) {
@@ -664,6 +679,9 @@ public final class EdgeTests {
 
     private static void round() {
         edge("P14 nobody is there: behind 1", 1, () -> new TwoTuesdays().round());
+        edge("P14 eight are there: behind 1", 1, () -> eightAt(7).round());
+        edge("P14 the last of eight alone does not come back", NONE,
+            () -> changed(prized(eightAt(0), 0, 9), 7, 0, PERSON).round());
         edge("P14 all rest: behind 1", 1, () -> town(CAT, 0, 7).round());
         edge("P14 there and back: behind 2", 2, () -> restless().round());
         edge("P14 one of two never comes back", NONE, () -> prized(town(PERSON, 3, 0), 0, 9, 0, 9).round());
@@ -692,6 +710,8 @@ public final class EdgeTests {
         edge("P15 from one PLAN to two", NONE, () -> changed(prized(town(PERSON, 0, 0), 0, 9), 1, 2, 0).meet(0, 1));
         edge("P15 behind one", 1, () -> prized(town(PERSON, 0, 2), 0, 1, 9).meet(0, 1));
         edge("P15 never", NONE, () -> town(CAT, 3, 4).meet(0, 1));
+        edge("P15 the last two of eight", 0, () -> eightAt(7).meet(7, 6));
+        edge("P15 the first and the last of eight", NONE, () -> lastAt(5).meet(0, 7));
         for (int i = 0; i <= 101; i++) {
             int n = i;
             edge("P15 walking there: they meet behind 101, " + i, i == 101 ? 1 : 0, () -> {
@@ -973,6 +993,8 @@ public final class EdgeTests {
             });
         }
         edge("P27 the draws come ahead of the TUESDAY", 32, () -> town(CAT, 6).weather(1));
+        edge("P27 a TUESDAY each time, ahead of the next draws", 10 + 3, () -> town(CAT, 4).weather(2));
+        edge("P27 of all together then", 102 + 95, () -> town(CAT, 0, 1, 2, 3, 4, 5, 6, 7).weather(2));
         edge("P27 once: one TUESDAY", 1, () -> {
             TwoTuesdays x = new TwoTuesdays();
             x.weather(1);
@@ -1165,6 +1187,50 @@ public final class EdgeTests {
         fault("byte 255", "cat;" + (char) 255, 4);
     }
 
+    /** Each WORD with one letter less, more or another is another WORD: a FAULT at its begin. */
+    private static void otherWords() {
+        String[] behind = {"", "", "", "", "", "", "", " 0 0", " 1", " 1", " 0"};
+        String[] before = {"", "", "", "", "", "", "", "", "cat ", "cat ", "cat;cat "};
+        String[] words = {"person", "gambler", "lover", "jealous", "thief", "cat", "sleeper", "prize", "at", "looks", "loves"};
+        for (int i = 0; i < words.length; i++) {
+            String word = words[i];
+            text("the WORD itself", before[i] + word + behind[i], before[i].contains(";") ? 2 : 1);
+            for (int k = 0; k < word.length(); k++) {
+                String head = before[i] + word.substring(0, k);
+                String tail = word.substring(k + 1) + behind[i];
+                char letter = word.charAt(k);
+                fault("another letter", head + (char) (letter + 1) + tail, before[i].length());
+                fault("a great letter", head + (char) (letter - 32) + tail, before[i].length());
+                fault("a letter less", head + tail, before[i].length());
+                fault("a letter twice", head + letter + letter + tail, before[i].length());
+            }
+        }
+    }
+
+    /** What stood on THE TAPE before, or stands behind its end, is not read. */
+    private static void tapesReadAgain() {
+        edge("P32 a WORD ends with THE TAPE, though it went on before", 1, () -> typed(wiped("cats"), "cat").text());
+        edge("P32 a WORD ends with THE TAPE, though a text went on before", 1, () -> typed(read("cats"), "cat").text());
+        edge("P32 a NUMBER ends with THE TAPE, though it went on before", 1, () -> typed(wiped("prize 3 456"), "prize 3 4").text());
+        edge("P32 that is its worth", 4, () -> {
+            TwoTuesdays x = typed(wiped("prize 3 456"), "prize 3 4");
+            x.text();
+            return x.place(3, 0);
+        });
+        edge("P32 a text ends with THE TAPE, though it went on before", 1, () -> typed(wiped("cat;cat"), "cat").text());
+        edge("P32 nothing stands there though it did before", -1, () -> wiped("cat;cat").text());
+        text("a WORD ends with 120 bytes", repeat(" ", 117) + "cat", 1);
+        text("a NUMBER ends with 120 bytes", repeat(" ", 112) + "cat at 7", 1);
+        text("blanks end with 120 bytes", "cat" + repeat(" ", 117), 1);
+        fault("; ends with 120 bytes", "cat" + repeat(" ", 116) + ";", 120);
+    }
+
+    private static TwoTuesdays wiped(String text) {
+        TwoTuesdays x = typed(new TwoTuesdays(), text);
+        x.wipe();
+        return x;
+    }
+
     private static void textsThatEndTooEarly() {
         String[] texts = {"", " ", repeat(" ", 120), "cat;", "cat ; ", "cat at", "cat at ", "cat looks", "cat at 7 looks ",
             "cat;cat loves", "cat;cat at 1 looks 1 loves  ", "prize", "prize ", "prize 7", "prize 7  ", "prize 7 1;",
@@ -1316,6 +1382,14 @@ public final class EdgeTests {
             x.sheet(0, 8, 8);
             return loadedOf(x);
         });
+        for (int n = 1; n < 8; n++) {
+            int least = n;
+            edge("P35 all 0 again, of " + n, 22222222 % (long) Math.pow(10, 8 - n), () -> {
+                TwoTuesdays x = numbers(prized(new TwoTuesdays(), 2, 2, 2, 2, 2, 2, 2, 2), 8, 9, 9, 9, 9, 9, 9, 9, 9);
+                x.sheet(0, 8, least);
+                return loadedOf(x);
+            });
+        }
         edge("P36 no other number changes", 900, () -> {
             TwoTuesdays x = sheeted(0, 8, 8);
             x.write(0, 5, 9);
@@ -1351,9 +1425,10 @@ public final class EdgeTests {
                 return x.load(0) == 1 ? x.place(0, 0) : -1;
             });
         }
-        edge("P36 32767 of 16 bits stays", 1, () -> numbers(changed(town(CAT, 0), 0, 4, 32767), 16, 32767).fits(0, 0) == 255 ? 1 : 0);
-        edge("P36 65536 of 32 bits stays", 1, () -> numbers(changed(town(CAT, 0), 0, 4, 65536), 32, 65536).fits(0, 0) == 255 ? 1 : 0);
-        edge("P36 32768 of 32 bits stays", 1, () -> numbers(changed(town(CAT, 0), 0, 4, 32768), 32, 32768).fits(0, 0) == 255 ? 1 : 0);
+        // All PLANS fit if the number is GOODS now.
+        edge("P36 32767 of 16 bits stays", 255, () -> numbers(changed(town(CAT, 0), 0, 4, 32767), 16, 32767).fits(0, 0));
+        edge("P36 32768 of 32 bits stays", 255, () -> numbers(changed(town(CAT, 0), 0, 4, 32768), 32, 32768).fits(0, 0));
+        edge("P36 65536 of 32 bits stays", 255, () -> numbers(changed(town(CAT, 0), 0, 4, 65536), 32, 65536).fits(0, 0));
     }
 
     private static void copies() {

@@ -6,7 +6,8 @@ import java.util.function.Supplier;
 /**
  * Each sentence of the document by which a call is refused: the finding that it answers, in which
  * order findings are told, that status() counts it, and that nothing else changes. What a call has
- * changed is looked for by two towns that had the same calls but for that one.
+ * changed is looked for by two towns that had the same calls but for that one. STATE stands in
+ * PromiseTests: no 512 calls reach it.
  */
 public final class RefusedTests {
     private static final int BEYOND = -1000001;
@@ -54,6 +55,7 @@ public final class RefusedTests {
         order();
         findingsInLongs();
         nothingChanges();
+        faultsChangeNothing();
         if (wrong != 0) {
             System.out.println(wrong + " of " + checks + " checks are not as due");
             System.exit(1);
@@ -611,6 +613,35 @@ public final class RefusedTests {
     private static void findingsInLongs() {
         long odds = busy().odds(21, 0);
         due("Terms: findings in longs, too", odds, -1000001L);
+    }
+
+    /** Behind a FAULT all is as if THE TAPE had been wiped, status() too. */
+    private static void faultsChangeNothing() {
+        for (String text : new String[] {"", "cat at 3;", "cat at 3;cat at 4", "prize 0 1;prize 4 5;prize 8 0", "cat;cat loves 8",
+            "cat at 7 looks 7 loves 6;!", "prize 1 1 1", "prize 0 0;dog"}) {
+            due("P32 nothing changes at a FAULT: '" + text + "'", showsFault(text) ? 1 : 0, 0);
+            TwoTuesdays x = busy();
+            x.wipe();
+            type(x, text);
+            int[] statuses = statuses(x);
+            due("P32 a FAULT is below 0: '" + text + "'", x.text() < 0 ? 1 : 0, 1);
+            due("P32 a FAULT is no finding: '" + text + "'", Arrays.equals(statuses, statuses(x)) ? 1 : 0, 1);
+        }
+    }
+
+    private static boolean showsFault(String text) {
+        for (int part = 0; part < PARTS; part++) {
+            TwoTuesdays with = busy();
+            with.wipe();
+            type(with, text);
+            with.text();
+            TwoTuesdays without = busy();
+            without.wipe();
+            if (!look(part, with).equals(look(part, without))) {
+                return true;
+            }
+        }
+        return false;
     }
 
     // ---- what is answered and changes nothing
